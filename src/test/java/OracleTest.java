@@ -78,15 +78,19 @@ public final class OracleTest {
         return made;
     }
 
+    private static void areaAndCentroid(PolyCuts x, Oracle oracle, String name) {
+        DUE.is("area of " + name, x.area(0), oracle.area());
+        for (int axis = 0; axis < 2; axis++) {
+            BigInteger[] due = oracle.centroid(axis);
+            DUE.is("centroid's above of " + name, x.centroid(0, axis, 0), due[0].longValueExact());
+            DUE.is("centroid's below of " + name, x.centroid(0, axis, 1), due[1].longValueExact());
+        }
+    }
+
     private static void measures(int[] xy) {
         Oracle oracle = new Oracle(xy);
         PolyCuts x = Due.holding(xy);
-        DUE.is("area of " + name(xy), x.area(0), oracle.area());
-        for (int axis = 0; axis < 2; axis++) {
-            BigInteger[] due = oracle.centroid(axis);
-            DUE.is("centroid's above of " + name(xy), x.centroid(0, axis, 0), due[0].longValueExact());
-            DUE.is("centroid's below of " + name(xy), x.centroid(0, axis, 1), due[1].longValueExact());
-        }
+        areaAndCentroid(x, oracle, name(xy));
         int[] points = oracle.points();
         DUE.is("points on " + name(xy), x.points(0, 0), points[1]);
         DUE.is("points inside " + name(xy), x.points(0, 1), points[2]);
@@ -180,12 +184,7 @@ public final class OracleTest {
     private static void farMeasures(int[] xy) {
         Oracle oracle = new Oracle(xy);
         PolyCuts x = Due.holding(xy);
-        DUE.is("area of " + name(xy), x.area(0), oracle.area());
-        for (int axis = 0; axis < 2; axis++) {
-            BigInteger[] due = oracle.centroid(axis);
-            DUE.is("centroid's above of " + name(xy), x.centroid(0, axis, 0), due[0].longValueExact());
-            DUE.is("centroid's below of " + name(xy), x.centroid(0, axis, 1), due[1].longValueExact());
-        }
+        areaAndCentroid(x, oracle, name(xy));
         for (int tries = 0; tries < 100; tries++) {
             int px = CHANCE.nextInt(6001) - 3000;
             int py = CHANCE.nextInt(6001) - 3000;

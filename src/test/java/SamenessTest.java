@@ -8,6 +8,7 @@ public final class SamenessTest {
     public static void main(String[] args) {
         promise20Same();
         promise20LikeButOther();
+        promise20LeastAndMost();
         promise21Onto();
         promise21AsSameTells();
         promise22Symmetries();
@@ -87,6 +88,26 @@ public final class SamenessTest {
         Due.make(x, 0, 0, 8, 0, 8, 8, 4, 6, 0, 8);
         sameIs(x, 5, 6, 0, PolyCuts.NONE);
         sameIs(x, 6, 5, 0, PolyCuts.NONE);
+    }
+
+    private static void promise20LeastAndMost() {
+        PolyCuts x = Due.holding(0, 0, 1, 0, 0, 1);
+        Due.make(x, 0, 0, 0, 1, 1, 0);
+        sameIs(x, 0, 1, 1, 0);
+        sameIs(x, 1, 0, 1, 0);
+        int[] zigzag = {0, 0, 2, 1, 4, 0, 6, 1, 8, 0, 10, 1, 12, 0, 12, 5, 10, 6, 8, 5, 6, 6, 4, 5, 2, 6, 0, 5};
+        Due.make(x, zigzag);
+        Due.make(x, moved(zigzag, 1, false, new int[] {0, -1, 1, 0}, 0, 0));
+        Due.make(x, moved(zigzag, 9, true, new int[] {1, 0, 0, 1}, 0, 0));
+        zigzag[0] = 1;
+        Due.make(x, zigzag);
+        Due.make(x, moved(zigzag, 0, true, new int[] {-1, 0, 0, 1}, 0, 0));
+        sameIs(x, 2, 3, 1, 13);
+        sameIs(x, 2, 4, 1, 9);
+        sameIs(x, 2, 5, 0, PolyCuts.NONE);
+        sameIs(x, 5, 6, 2, 0);
+        symmetriesAre(x, 2, 1, 2);
+        symmetriesAre(x, 5, 1, 1);
     }
 
     private static void promise21Onto() {

@@ -96,6 +96,10 @@ public final class SightTest {
                 wayIs(x, leastWay(x, from, to));
             }
         }
+        // Nothing of an earlier way is left over.
+        x.way(0, 3, 3);
+        DUE.is("14: step without way() before it", x.step(0, 0, 6, 1), leastWay(x, 0, 6)[1]);
+        DUE.is("14: and to another corner", x.step(0, 6, 0, 1), leastWay(x, 6, 0)[1]);
         DUE.is("14: far behind", x.step(0, 0, 6, Integer.MAX_VALUE), PolyCuts.NONE);
         DUE.is("14: far before", x.step(0, 0, 6, Integer.MIN_VALUE), PolyCuts.NONE);
     }
