@@ -85,12 +85,7 @@ public final class MeasuresTest {
             -1, 2, 0, -1, 0, 0, -1, 6, 0, 9, 6, 0, 4, 6, 0, 4, 0, 1, 4, -1, 0, 1, 2, 2, 2, 2, 1, 0, 0, 1, 0, 7, 0,
             4, 2, 2, 3, 2, 2, 9, 2, 0, 9, 4, 0, -3, 4, 0};
         PolyCuts x = Due.holding(comb);
-        int[] reversed = new int[comb.length];
-        for (int i = 0; i < comb.length; i += 2) {
-            reversed[comb.length - 2 - i] = comb[i];
-            reversed[comb.length - 1 - i] = comb[i + 1];
-        }
-        Due.make(x, reversed);
+        Due.make(x, Due.backward(comb));
         for (int i = 0; i < places.length; i += 3) {
             String point = "11: in(p, " + places[i] + ", " + places[i + 1] + ")";
             DUE.is(point, x.in(0, places[i], places[i + 1]), places[i + 2]);

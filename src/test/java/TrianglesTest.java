@@ -13,20 +13,10 @@ public final class TrianglesTest {
         DUE.end();
     }
 
-    /** Corners on a parabola: convex, however many. */
-    private static int[] parabola(int corners) {
-        int[] xy = new int[2 * corners];
-        for (int i = 0; i < corners; i++) {
-            xy[2 * i] = i;
-            xy[2 * i + 1] = i * i;
-        }
-        return xy;
-    }
-
     private static void promise15Triangulations() {
         int[] catalan = {1, 2, 5, 14, 42, 132, 429, 1430, 4862, 16796, 58786, 208012};
         for (int n = 3; n <= 14; n++) {
-            PolyCuts x = Due.holding(parabola(n));
+            PolyCuts x = Due.holding(Due.convex(n));
             DUE.is("15: convex with " + n, x.triangulations(0), catalan[n - 3]);
         }
         PolyCuts x = Due.holding(0, 0, 4, 1, 8, 0, 4, 8);
@@ -145,7 +135,7 @@ public final class TrianglesTest {
     private static void promise19Parts() {
         PolyCuts x = Due.holding(0, 0, 1, 0, 0, 1);
         DUE.is("19: a triangle", x.parts(0), 1);
-        Due.make(x, parabola(14));
+        Due.make(x, Due.convex(14));
         DUE.is("19: convex", x.parts(1), 1);
         Due.make(x, 0, 0, 4, 1, 8, 0, 4, 8);
         DUE.is("19: an arrow", x.parts(2), 2);
