@@ -640,8 +640,10 @@ public final class PolyCuts {
         }
 
         private static void nameSpan(Shape shape, int t, int from, int to) {
-            shape.triangleFrom[t] = from;
-            shape.triangleTo[t] = to;
+            if (t > 0 && t < shape.triangleCount()) {
+                shape.triangleFrom[t] = from;
+                shape.triangleTo[t] = to;
+            }
         }
 
         private void nameDiagonals(Shape shape) {

@@ -24,6 +24,11 @@ public final class OracleTest {
         for (int round = 0; round < 2000; round++) {
             sameness(grown(3 + CHANCE.nextInt(6), 2 + CHANCE.nextInt(4)));
         }
+        for (int round = 0; round < 300; round++) {
+            int[] xy = grown(14, 5 + CHANCE.nextInt(30));
+            triangles(xy);
+            sameness(xy);
+        }
         far();
         DUE.end();
     }
@@ -169,7 +174,7 @@ public final class OracleTest {
     private static void far() {
         int[] square = {-1, -1, 1, -1, 1, 1, -1, 1};
         for (int round = 0; round < 300; round++) {
-            int[] xy = grown(3 + CHANCE.nextInt(7), 2000);
+            int[] xy = grown(3 + CHANCE.nextInt(12), 2000);
             for (int i = 0; i < xy.length; i++) {
                 xy[i] -= 1000;
             }
